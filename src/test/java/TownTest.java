@@ -334,6 +334,15 @@ public final class TownTest {
         due.is("21 hidden", s.town(6), 1);
         s.build(189, 199, 2);
         due.is("21 the same height side by side", s.town(8), 11);
+        Skylinesheet ends = new Skylinesheet();
+        ends.build(0, 1, 9);
+        ends.build(198, 200, 8);
+        due.is("21 the greatest height at x 0", ends.town(3), 9);
+        due.is("21 the first x that has it", ends.town(4), 0);
+        ends.raise(1, 2);
+        due.is("21 the greatest height at the end", ends.town(3), 10);
+        due.is("21 the first x that has it", ends.town(4), 198);
+        due.is("21 the same height up to the end", ends.town(8), 2);
         due.argument("21 town(-1)", () -> s.town(-1));
         due.argument("21 town(9)", () -> s.town(9));
     }

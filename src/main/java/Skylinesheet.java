@@ -1476,10 +1476,14 @@ public final class Skylinesheet {
             for (int round = 0; round < ROUNDS && isGrowing; round++) {
                 isGrowing = false;
                 for (int line = 0; line < LINES; line++) {
-                    isGrowing |= growRow(line);
+                    if (growRow(line)) {
+                        isGrowing = true;
+                    }
                 }
                 for (int line = LINES - 1; line >= 0; line--) {
-                    isGrowing |= growRow(line);
+                    if (growRow(line)) {
+                        isGrowing = true;
+                    }
                 }
             }
         }

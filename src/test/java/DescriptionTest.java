@@ -133,7 +133,8 @@ public final class DescriptionTest {
     private void faceAndShade() {
         due.is("1 the face without any", with().town(2), 0);
         due.is("1 the face from end to end", with(0, 200, 99).town(2), 198);
-        due.is("1 the face up and down, without a sign", with(0, 10, 9, 3, 5, 20, 10, 12, 4).town(2), 9 + 11 + 11 + 5 + 4);
+        due.is("1 the face up and down, without a sign", with(0, 10, 9, 3, 5, 20, 10, 12, 4).town(2),
+            9 + 11 + 11 + 5 + 4);
         due.is("1 the shade without any", with().town(1), 0);
         due.is("1 the shade at its greatest", with(0, 200, 99).town(1), 19800);
         due.is("1 what stands behind adds no shade", with(0, 10, 9, 3, 5, 20, 4, 9, 8).town(1), 8 * 9 + 2 * 20);

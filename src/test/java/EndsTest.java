@@ -41,6 +41,7 @@ public final class EndsTest {
         test.isSound();
         test.digestWrapsAround();
         test.digestOfTheLastSix();
+        test.digestOfManyHouses();
         test.due.end();
     }
 
@@ -285,6 +286,12 @@ public final class EndsTest {
         due.is("18 both are torn", s.half(0, 0), 0);
         s.raise(1, 90);
         due.is("18 raised", s.half(1, 0), 97);
+        s.raise(1, -96);
+        due.is("18 lowered", s.half(1, 0), 1);
+        s.tear(1);
+        due.is("18 the odd one is torn", s.half(1, 0), 0);
+        s.undo();
+        due.is("18 the odd one is back", s.half(1, 0), 1);
     }
 
     private void between() {
@@ -711,6 +718,30 @@ public final class EndsTest {
         for (int n = 0; n < 20; n++) {
             s.undo();
             due.is("37 after undo()", s.digest(), sumOf(s).longValue());
+        }
+    }
+
+    /** Houses in which what stands beside a place that digest() asks of answers otherwise, one time or another. */
+    private void digestOfManyHouses() {
+        Numbers numbers = new Numbers(37);
+        for (int run = 0; run < 60; run++) {
+            Skylinesheet s = new Skylinesheet();
+            for (int n = numbers.below(9); n > 0; n--) {
+                int left = numbers.below(8) == 0 ? 10 * numbers.below(20) : numbers.below(200);
+                int right = Math.min(200, left + 1 + numbers.below(40));
+                s.build(left, right, 1 + numbers.below(run % 2 == 0 ? 12 : 60));
+            }
+            for (int n = numbers.below(20); n > 0; n--) {
+                int near = numbers.below(2) * 19;
+                int left = near + numbers.below(4);
+                int top = near + numbers.below(4);
+                s.lay(numbers.below(3), left, left + 1 + numbers.below(2), top, top + 1 + numbers.below(2));
+            }
+            s.build(48 + numbers.below(3), 51 + numbers.below(2), 48 + numbers.below(4));
+            s.build(148 + numbers.below(3), 151 + numbers.below(2), 8 + numbers.below(4));
+            s.build(98 + numbers.below(2), 100 + numbers.below(3), 4 + numbers.below(3));
+            s.build(numbers.below(2), 20, 1);
+            due.is("37 digest() of the house " + run, s.digest(), sumOf(s).longValue());
         }
     }
 }

@@ -81,11 +81,22 @@ public final class FaceTest {
                 !Modifier.isStatic(f.getModifiers()) || Modifier.isFinal(f.getModifiers()), true);
         }
         privateNames(Skylinesheet.class, names);
+        fewFields(Skylinesheet.class);
+        due.is("some twelve classes at most", Skylinesheet.class.getDeclaredClasses().length <= 11, true);
         for (Class<?> inside : Skylinesheet.class.getDeclaredClasses()) {
             due.is(inside.getName() + " is static", Modifier.isStatic(inside.getModifiers()), true);
             due.is(inside.getName() + " is not public", Modifier.isPublic(inside.getModifiers()), false);
             privateNames(inside, names);
+            fewFields(inside);
         }
+    }
+
+    private void fewFields(Class<?> type) {
+        int count = 0;
+        for (Field f : type.getDeclaredFields()) {
+            count += Modifier.isStatic(f.getModifiers()) ? 0 : 1;
+        }
+        due.is(type.getName() + " has some twenty fields at most", count <= 20, true);
     }
 
     private void privateNames(Class<?> type, Set<String> names) {

@@ -930,7 +930,7 @@ public final class Skylinesheet {
         }
 
         boolean isStanding(int n) {
-            return isBuilt(n) && stand[n];
+            return n >= 0 && n < built && stand[n];
         }
 
         int leftOf(int n) {
